@@ -166,7 +166,7 @@ public final class GliderHouse {
             return refuse(UNKNOWN);
         }
         if (n < 1 || n > Trace.CAPACITY[Trace.MOMENTS] || dt < 0 || dt > 1000000
-                || !Numbers.isWithin(dLongitude, 10.0) || !Numbers.isWithin(dLatitude, 10.0)
+                || !Numbers.isWithin(dLongitude, Numbers.BITS_10) || !Numbers.isWithin(dLatitude, Numbers.BITS_10)
                 || !Numbers.isFloatWithin(dPressure, -100.0f, 100.0f)) {
             return refuse(OUTSIDE);
         }
@@ -640,7 +640,7 @@ public final class GliderHouse {
             }
             if (j < b.keptCount && b.moments[b.kept[j]] == moment) {
                 shared++;
-                if (a.wayTo(a.kept[i], b, b.kept[j]) > settings[DIFFER]) {
+                if (Numbers.rootOf(a.squaredWayTo(a.kept[i], b, b.kept[j])) > (double) settings[DIFFER]) {
                     firstDiffering = differing == 0 ? moment : firstDiffering;
                     differing++;
                 }
@@ -656,6 +656,8 @@ public final class GliderHouse {
         static final long NO_NUMBER = 0x7FF8000000000000L;
         static final int NO_FLOAT = 0x7FC00000;
         static final int ENDLESS = 0x7F800000;
+        static final long BITS_10 = 0x4024000000000000L;
+        private static final long BITS_90 = 0x4056800000000000L, BITS_180 = 0x4066800000000000L;
         private static final long EXPONENT = 0x7FF0000000000000L;
         private static final long MAGNITUDE = 0x7FFFFFFFFFFFFFFFL;
         private static final long SIGN = 0x8000000000000000L;
@@ -678,16 +680,13 @@ public final class GliderHouse {
             return (bits & ENDLESS) != ENDLESS;
         }
 
-        static boolean isWithin(long bits, double limit) {
-            if (!isFinite(bits)) {
-                return false;
-            }
-            double x = numberOf(bits);
-            return x <= limit && 0.0 - x <= limit;
+        /** Whether a number lies between the limit below 0 and above it: without the sign, bits rise as numbers do. */
+        static boolean isWithin(long bits, long limitBits) {
+            return (bits & MAGNITUDE) <= limitBits;
         }
 
         static boolean isFix(long longitude, long latitude) {
-            return isWithin(longitude, 180.0) && isWithin(latitude, 90.0);
+            return isWithin(longitude, BITS_180) && isWithin(latitude, BITS_90);
         }
 
         static boolean isFloatWithin(int bits, float least, float most) {
@@ -838,6 +837,8 @@ public final class GliderHouse {
                     q++;
                 } else if (rest <= 0L - q) {
                     q--;
+                } else {
+                    break;
                 }
             }
             return (double) q * unit;
@@ -1132,8 +1133,9 @@ public final class GliderHouse {
             return p >= pressures[count - 1] && p <= pressures[0];
         }
 
+        /** Of a pressure of which it tells one. */
         float heightOf(int pressureBits) {
-            if (!tells(pressureBits)) {
+            if (count < 2 || count > MOST) {
                 return 0.0f;
             }
             float p = Numbers.floatOf(pressureBits);
@@ -1261,11 +1263,10 @@ public final class GliderHouse {
         }
 
         double wayOf(int i, int j) {
-            return wayTo(i, this, j);
-        }
-
-        double wayTo(int i, Readings other, int j) {
-            return Numbers.rootOf(squaredWayTo(i, other, j));
+            if (!knows(i) || !knows(j)) {
+                return 0.0;
+            }
+            return Numbers.rootOf(Numbers.squaredWay(longitudes[i], latitudes[i], longitudes[j], latitudes[j]));
         }
 
         double squaredWayTo(int i, Readings other, int j) {
@@ -1352,8 +1353,10 @@ public final class GliderHouse {
             return readings != null && readings.hasAll(k, Readings.PRESSURE) && t.tells(readings.pressures[k]);
         }
 
+        /** Of a READING that has one. */
         float heightOver(Table t, int k) {
-            return hasHeight(t, k) ? t.heightOf(readings.pressures[k]) - groundHeight : 0.0f;
+            boolean known = readings != null && readings.knows(k);
+            return known ? t.heightOf(readings.pressures[k]) - groundHeight : 0.0f;
         }
 
         int heightBits(Table t, int k) {
@@ -1454,21 +1457,17 @@ public final class GliderHouse {
             kind = recorderKind;
             for (int b = 0; b < from.blocks && met < LIMIT; b++) {
                 opened++;
-                scanBlock(b);
+                block = b;
+                goneRows = 0;
+                int n = from.lengthOf(b, Trace.MOMENTS);
+                if (n < 0) {
+                    note(F_LOST, b, -1);
+                }
+                boolean goesOn = true;
+                for (int i = 0; i < n && goesOn && met < LIMIT; i++) {
+                    goesOn = scanItem(i);
+                }
                 closed++;
-            }
-        }
-
-        private void scanBlock(int b) {
-            block = b;
-            goneRows = 0;
-            int n = trace.lengthOf(b, Trace.MOMENTS);
-            if (n < 0) {
-                note(F_LOST, b, -1);
-            }
-            boolean goesOn = true;
-            for (int i = 0; i < n && goesOn && met < LIMIT; i++) {
-                goesOn = scanItem(i);
             }
         }
 
@@ -1678,8 +1677,12 @@ public final class GliderHouse {
         private double roundCrossing(double u, double v, double du, double dv) {
             low = 0.0;
             high = 1.0;
-            if (kind == SECTOR && !narrowsToQuarter(u, v, du, dv)) {
-                return -1.0;
+            if (kind == SECTOR) {
+                boolean inU = isWest() ? narrows(0.0 - u, 0.0 - du) : narrows(u, du);
+                boolean inV = isSouth() ? narrows(0.0 - v, 0.0 - dv) : narrows(v, dv);
+                if (!inU || !inV) {
+                    return -1.0;
+                }
             }
             double dd = du * du + dv * dv;
             if (low > high || dd == 0.0) {
@@ -1692,11 +1695,6 @@ public final class GliderHouse {
                 t = high;
             }
             return isNear(u + t * du, v + t * dv) ? t : -1.0;
-        }
-
-        private boolean narrowsToQuarter(double u, double v, double du, double dv) {
-            boolean inU = isWest() ? narrows(0.0 - u, 0.0 - du) : narrows(u, du);
-            return inU && (isSouth() ? narrows(0.0 - v, 0.0 - dv) : narrows(v, dv));
         }
 
         private boolean narrows(double x, double dx) {
