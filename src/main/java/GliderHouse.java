@@ -1418,7 +1418,7 @@ public final class GliderHouse {
         private int[] found = new int[TOLD * PARTS];
         private int[] draftFound = new int[TOLD * PARTS];
         private int draftCount;
-        private Readings draft;
+        private Readings draft = new Readings();
         private Trace trace;
         private int kind;
         private int shift;
@@ -1427,9 +1427,6 @@ public final class GliderHouse {
         private int goneRows;
 
         void begin(int shiftNow, int jumpNow) {
-            if (draft == null) {
-                draft = new Readings();
-            }
             draft.clear();
             draftCount = 0;
             shift = shiftNow;
@@ -1438,8 +1435,8 @@ public final class GliderHouse {
 
         /** The draft; the room of what it takes the place of is used for the next one. */
         Readings publish(Readings before) {
-            Readings done = draft == null ? new Readings() : draft;
-            draft = before;
+            Readings done = draft;
+            draft = before == null ? new Readings() : before;
             int[] old = found;
             found = draftFound;
             draftFound = old;

@@ -10,6 +10,8 @@ public final class HeightsTest {
         refusals();
         glides();
         glideEdges();
+        fullTable();
+        onAPoint();
         compare();
         bestGlide();
         Check.end("HeightsTest");
@@ -80,6 +82,39 @@ public final class HeightsTest {
         tall(y, 0, 2000f);
         tall(y, 1, 2000f);
         tall(y, 2, 1999f);
+    }
+
+    private static void fullTable() {
+        GliderHouse x = house(0f, 1f, 8.5f, 9f, 0f);
+        x.set(0, 0, 2, 4, 0x7FC00001);
+        x.read(0);
+        for (int i = 0; i < 10; i++) {
+            lay(x, 9 - i, 100 * i * i);
+        }
+        tall(x, 0, 8100f);
+        tall(x, 1, 6400f);
+        tall(x, 2, 50f);
+        tall(x, 3, 0f);
+        tall(x, 4, Float.NaN);
+    }
+
+    /** On a POINT in the midst it is F: the reckoning from E on rounds otherwise than the POINT's own height. */
+    private static void onAPoint() {
+        boolean told = false;
+        for (int i = 1; i < 1000 && !told; i++) {
+            float e = 1000f + i / 7f;
+            float h = i * 3.3f;
+            float reckoned = 10.1f + (e - 900.3f) * ((h - 10.1f) / (e - 900.3f));
+            told = reckoned != h;
+            if (told) {
+                GliderHouse x = house(900.3f);
+                lay(x, e, 10.1f);
+                lay(x, 900.3f, h);
+                lay(x, 800f, 39999f);
+                tall(x, 0, reckoned);
+            }
+        }
+        Check.yes("there is such a TABLE", told);
     }
 
     private static void ground() {

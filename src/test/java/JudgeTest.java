@@ -214,10 +214,13 @@ public final class JudgeTest {
         Check.refused(x, "PLAIN", x.engine(0), GliderHouse.NOT_THAT);
         Check.refused(x, "NET", x.engine(2), GliderHouse.NOT_THAT);
         Check.refused(x, "engine STATE", x.engine(1), GliderHouse.STATE);
-        int[] noises = {-5, -3, -4, -9};
+        int[] noises = {-2, -3, -4, -9};
         for (int i = 0; i < 4; i++) {
             x.set(0, 0, 3, i, noises[i]);
         }
+        x.read(1);
+        Check.due("engine", x.engine(1), -2);
+        x.set(0, 0, 3, 0, -5);
         x.read(1);
         Check.due("engine", x.engine(1), -3);
         Check.due("status", x.status(), 0);

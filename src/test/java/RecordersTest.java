@@ -428,12 +428,18 @@ public final class RecordersTest {
         }
         Check.due("met", x.count(7), 3984);
         int findings = x.count(4);
+        Check.due("finding(0, 3)", x.finding(0, 3), GliderHouse.UNKNOWN);
+        Check.due("finding(0, -1)", x.finding(0, -1), GliderHouse.UNKNOWN);
         x.row(0, 0, 0, 1);
+        x.row(0, 0, 2, 0);
+        x.row(0, 1, 2, 0);
         Check.refused(x, "the 4000th", x.read(0), GliderHouse.SPENT);
         Check.due("met", x.count(7), 4000);
         Check.due("opened", x.count(5), 2000);
         Check.due("closed", x.count(6), 2000);
         Check.due("findings stay", x.count(4), findings);
+        Check.due("findings stay", x.finding(1, 0), LOST);
+        Check.due("findings stay", x.finding(1, 1), 0);
         Check.due("what was READ stays", x.reading(0, 15, 0), 16);
         Check.refused(x, "FULL", x.read(0), GliderHouse.FULL);
         Check.refused(x, "FULL of a DOUBLED one", x.read(2), GliderHouse.FULL);

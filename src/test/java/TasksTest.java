@@ -13,6 +13,9 @@ public final class TasksTest {
         sectorCrossed();
         lines();
         lineCrossed();
+        obliqueLines();
+        onTheLine();
+        onTheBorder();
         order();
         gap();
         onlyKept();
@@ -205,6 +208,25 @@ public final class TasksTest {
         round(y, SECTOR, 0, 0, 1000000, 2);
         // from 1 / 6 to 1 / 2; nearest at 2.24 / 5.44
         reaches(y, 71);
+        // the mirrored ways of quarters 1 to 3
+        double[][] turned = {at(1, 1), at(-1, 1), at(-1, -1), at(1, -1)};
+        for (int quarter = 0; quarter < 4; quarter++) {
+            double e = turned[quarter][0];
+            double n = turned[quarter][1];
+            GliderHouse w = house(at(-e, -0.1 * n), at(e, 0.3 * n));
+            round(w, SECTOR, 0, 0, 12000, quarter);
+            reaches(w, 75);
+            w.clearTask();
+            round(w, SECTOR, 0, 0, 11000, quarter);
+            reaches(w);
+            GliderHouse away = house(at(0.2 * e, 0.1 * n), at(-e, 0.1 * n));
+            round(away, SECTOR, 0, 0, 12000, quarter);
+            reaches(away, 50 + (long) Math.floor(0.2 / 1.2 * 50 + 0.5));
+            // just through the apex: low is high
+            GliderHouse apex = house(at(-e, n), at(e, -n));
+            round(apex, SECTOR, 0, 0, 1, quarter);
+            reaches(apex, 75);
+        }
         GliderHouse z = house(at(-0.1, 0.1), at(-0.1, 0.3));
         round(z, SECTOR, 0, 0, 1000000, 0);
         reaches(z);
@@ -261,6 +283,80 @@ public final class TasksTest {
         GliderHouse along = house(at(0, -2), at(0, 2));
         line(along, 0, -1, 0, 1);
         reaches(along);
+    }
+
+    /** U and V both count, and so do all signs of both. */
+    private static void obliqueLines() {
+        int[] signs = {-1, 1};
+        for (int e : signs) {
+            for (int n : signs) {
+                // from (0.1, 0) to (0.5, 0.2): y = (x - 0.1) / 2; flown along y = 0.1 from x 0 to x 1: met at x 0.3
+                GliderHouse x = house(at(0, 0.1 * n), at(1.0 * e, 0.1 * n));
+                line(x, 0.1 * e, 0, 0.5 * e, 0.2 * n);
+                reaches(x, 65);
+                x.clearTask();
+                line(x, 0.5 * e, 0.2 * n, 0.1 * e, 0);
+                reaches(x, 65);
+                x.clearTask();
+                // it ends at (0.28, 0.09), begins at (0.32, 0.11)
+                line(x, 0.1 * e, 0, 0.28 * e, 0.09 * n);
+                reaches(x);
+                x.clearTask();
+                line(x, 0.32 * e, 0.11 * n, 0.5 * e, 0.2 * n);
+                reaches(x);
+                // flown from south to north along x = 0.2: met at y 0.05
+                GliderHouse y = house(at(0.2 * e, -0.1 * n), at(0.2 * e, 0.4 * n));
+                line(y, 0.1 * e, 0, 0.5 * e, 0.2 * n);
+                reaches(y, 65);
+            }
+        }
+        // an end with U alone, and fixes on it
+        GliderHouse x = house(at(0.3, 0), at(0.6, 0));
+        line(x, 0, 0, 0.4, 0);
+        reaches(x, 50);
+        x.clearTask();
+        line(x, 0.5, 0, 0.7, 0);
+        reaches(x, 100);
+        x.clearTask();
+        line(x, 0.7, 0, 0.5, 0);
+        reaches(x, 100);
+        x.clearTask();
+        line(x, 0.4, 0, 0.5, 0);
+        reaches(x);
+    }
+
+    /** One of two fixes is on the LINE: they CROSS it, too, which shows when the same LINE is wanted again. */
+    private static void onTheLine() {
+        double[] sides = {-1, 1};
+        for (double side : sides) {
+            GliderHouse to = house(at(side, 0), at(0, 0));
+            line(to, 0, -1, 0, 1);
+            line(to, 0, -1, 0, 1);
+            reaches(to, 100, 100);
+            GliderHouse from = house(at(0, 0), at(side, 0));
+            line(from, 0, -1, 0, 1);
+            line(from, 0, -1, 0, 1);
+            reaches(from, 50, 50);
+        }
+    }
+
+    /** A fix whose distance is the radius to the last bit lies in it. */
+    private static void onTheBorder() {
+        boolean told = false;
+        for (int radius = 1000; radius < 2000 && !told; radius++) {
+            double lat = radius / K;
+            told = lat * K == radius;
+            if (told) {
+                GliderHouse x = house(at(0, lat));
+                round(x, CYLINDER, 0, 0, radius, 0);
+                reaches(x, 50);
+                GliderHouse y = house(at(0, lat * 2), at(0, lat));
+                round(y, SECTOR, 0, 0, radius, 0);
+                round(y, CYLINDER, 0, 0, radius, 0);
+                reaches(y, 100, 100);
+            }
+        }
+        Check.yes("there is such a radius", told);
     }
 
     private static void order() {

@@ -228,10 +228,13 @@ public final class TracesTest {
         Check.due("-0 and -0", y.get(0, 0, 1, 0), Check.bits(-0.0));
         Check.due("0 and -0", y.get(0, 0, 1, 1), 0);
         Check.due("-0f and -0f", y.get(0, 0, 2, 0), Check.bits(-0f));
+        y.here(0, 0, 0, 0, 0);
+        y.fly(0, 1, 0, Check.bits(-0.0), Check.bits(-0.0), Check.bits(-0f));
+        Check.due("0f and -0f", y.get(0, 1, 2, 0), 0);
         y.fly(0, 1, 0, Check.bits(Double.MIN_VALUE), Check.bits(-1e-310), Check.bits(-1e-42f));
-        Check.due("least number", y.get(0, 1, 1, 0), 1);
-        Check.due("small number", y.get(0, 1, 1, 1), Check.bits(-1e-310));
-        Check.due("small float", y.get(0, 1, 2, 0), Check.bits(-1e-42f));
+        Check.due("least number", y.get(0, 2, 1, 0), 1);
+        Check.due("small number", y.get(0, 2, 1, 1), Check.bits(-1e-310));
+        Check.due("small float", y.get(0, 2, 2, 0), Check.bits(-1e-42f));
     }
 
     private static byte[] bytesOf(int... values) {
@@ -409,6 +412,11 @@ public final class TracesTest {
         x.cut(3);
         Check.due("a TRACE without BLOCKS", x.back(), 1);
         Check.refused(x, "its BLOCK", x.size(1, 0, 0), GliderHouse.UNKNOWN);
+        x = exported();
+        x.cut(4);
+        x.alter(1, 1);
+        x.alter(2, 2 ^ 70);
+        faulty(x, 3);
         // a row laid by a back() that failed must not be there in the next TRACE
         x = exported();
         x.alter(73, 1);

@@ -278,6 +278,12 @@ public final class WaysTest {
             }
             Check.due("bound of " + n, house(fixes).bound(0), Check.bits(w + w + w + w + w));
         }
+        double[][] spread = new double[61][];
+        for (int i = 0; i < 61; i++) {
+            spread[i] = at(0, i == 30 ? 40 : i == 31 ? -40 : 0.01 * i);
+        }
+        double side = way(spread[30], spread[31]);
+        Check.due("two that follow each other", house(spread).bound(0), Check.bits(side + side + side + side + side));
         GliderHouse y = house(wave(61));
         y.set(0, 1, 1, 0, Check.bits(Double.NaN));
         y.read(0);
