@@ -16,6 +16,7 @@ public final class JudgeTest {
         part();
         differ();
         differEdges();
+        differAll();
         counts();
         status();
         Check.end("JudgeTest");
@@ -328,6 +329,26 @@ public final class JudgeTest {
         x.read(3);
         Check.due("of the moment the KEPT one alone", x.differ(0, 3), 1);
         lacks(x, 20, 2, 0);
+    }
+
+    /** As many KEPT ones as there can be, with none of the first one's moments in the other. */
+    private static void differAll() {
+        GliderHouse x = new GliderHouse();
+        for (int t = 0; t < 2; t++) {
+            x.trace();
+            x.here(t, 1000000 - 1000000 * t, 0, 0, 0);
+            for (int b = 0; b < 8; b++) {
+                x.fly(t, 24, 10, 0, 0, 0);
+            }
+            x.recorder(0, t);
+            x.read(t);
+        }
+        Check.due("differ", x.differ(0, 1), 0);
+        lacks(x, GliderHouse.NONE, 192, 192);
+        Check.due("differ", x.differ(1, 0), 0);
+        lacks(x, GliderHouse.NONE, 192, 192);
+        Check.due("differ", x.differ(1, 1), 0);
+        lacks(x, GliderHouse.NONE, 0, 0);
     }
 
     private static void counts() {

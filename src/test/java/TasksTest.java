@@ -306,8 +306,14 @@ public final class TasksTest {
                 reaches(x);
                 // flown from south to north along x = 0.2: met at y 0.05
                 GliderHouse y = house(at(0.2 * e, -0.1 * n), at(0.2 * e, 0.4 * n));
-                line(y, 0.1 * e, 0, 0.5 * e, 0.2 * n);
+                line(y, 0.1 * e, 0, 0.28 * e, 0.09 * n);
                 reaches(y, 65);
+                GliderHouse on = house(at(0.25 * e, 0.25 * n));
+                line(on, 0, 0, 0.5 * e, 0.5 * n);
+                reaches(on, 50);
+                GliderHouse off = house(at(0.25 * e, -0.25 * n));
+                line(off, 0, 0, 0.5 * e, 0.5 * n);
+                reaches(off);
             }
         }
         // an end with U alone, and fixes on it

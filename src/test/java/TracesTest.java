@@ -9,6 +9,7 @@ public final class TracesTest {
         blocks();
         rows();
         items();
+        fullRows();
         itemTroubles();
         here();
         fly();
@@ -118,6 +119,31 @@ public final class TracesTest {
         int[] noFloats = {0x7F800001, 0x7FC00000, 0x7FFFFFFF, 0xFF800001, 0xFFC00000, -1};
         for (int bits : noFloats) {
             keeps(2, bits, 0x7FC00000);
+        }
+    }
+
+    /** Every item of a full TRACE is its own. */
+    private static void fullRows() {
+        for (int kind = 0; kind < 5; kind++) {
+            // one house for each kind that is laid last, as no object is used for more than 512 calls
+            GliderHouse x = new GliderHouse();
+            x.trace();
+            x.block(0);
+            x.block(0);
+            for (int k = 0; k < 10; k++) {
+                int row = (kind + k) % 5;
+                x.row(0, k / 5, row, MOST[row]);
+                for (int i = 0; i < MOST[row]; i += i == 0 ? MOST[row] / 2 : i == MOST[row] / 2 ? MOST[row] - 1 - i : 2) {
+                    x.set(0, k / 5, row, i, 1 + k / 5 * 50 + row * 10 + i % 7);
+                }
+            }
+            for (int k = 0; k < 10; k++) {
+                int row = k % 5;
+                for (int i : new int[] {0, MOST[row] / 2, MOST[row] - 1}) {
+                    Check.due("item of a full ROW", x.get(0, k / 5, row, i), 1 + k / 5 * 50 + row * 10 + i % 7);
+                }
+                Check.due("item 1", x.get(0, k / 5, row, 1), 0);
+            }
         }
     }
 

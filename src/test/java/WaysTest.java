@@ -14,6 +14,7 @@ public final class WaysTest {
         corners();
         cornersStay();
         leastOfSeveral();
+        shorterBehindLonger();
         byAllPaths();
         sixty();
         bound();
@@ -194,6 +195,25 @@ public final class WaysTest {
         double[][] fixes = {at(0, 0), at(0, 8), at(0, 8), at(0, 0), at(0, 0)};
         GliderHouse x = house(fixes);
         greatest(x, way(fixes[0], fixes[1]) + way(fixes[1], fixes[4]), 1);
+    }
+
+    /** What an earlier best() reckoned must not stay for a shorter flight. */
+    private static void shorterBehindLonger() {
+        double[][] wide = {at(0, 0), at(0, 50), at(0, -50), at(0, 50), at(0, -50), at(0, 50)};
+        GliderHouse x = house(wide);
+        x.trace();
+        x.fly(1, 2, 1000, 0, Check.bits(0.001), 0);
+        x.recorder(0, 1);
+        x.read(1);
+        x.best(0);
+        Check.due("all corners", x.corner(3), 4);
+        Check.due("best of two", x.best(1), Check.bits(way(at(0, 0.001), at(0, 0.001 + 0.001))));
+        Check.due("no corner", x.corner(0), GliderHouse.NONE);
+        x.fly(1, 1, 1000, 0, Check.bits(0.001), 0);
+        x.read(1);
+        x.best(0);
+        Check.due("bound of three", x.bound(1), x.best(1));
+        Check.yes("of some 222 m", Double.longBitsToDouble(x.best(1)) < 223);
     }
 
     /** Sums along every path of at most four others, the first of the greatest by the order of the document's choice. */
