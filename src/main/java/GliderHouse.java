@@ -339,7 +339,7 @@ public final class GliderHouse {
             return refuseLong(UNKNOWN);
         }
         boolean fixed = r.hasAll(i, Readings.FIX) && r.hasAll(j, Readings.FIX);
-        return answerLong(fixed ? Numbers.bitsOf(r.wayOf(i, j)) : Numbers.NO_NUMBER);
+        return answerLong(fixed ? Numbers.bitsOf(r.wayTo(i, r, j)) : Numbers.NO_NUMBER);
     }
 
     public int glide(int recorder, int i, int j) {
@@ -386,7 +386,7 @@ public final class GliderHouse {
         }
         double together = 0.0;
         for (int i = 1; i < r.keptCount; i++) {
-            together = together + r.wayOf(r.kept[i - 1], r.kept[i]);
+            together = together + r.wayTo(r.kept[i - 1], r, r.kept[i]);
         }
         return answerLong(Numbers.bitsOf(together));
     }
@@ -640,7 +640,7 @@ public final class GliderHouse {
             }
             if (j < b.keptCount && b.moments[b.kept[j]] == moment) {
                 shared++;
-                if (Numbers.rootOf(a.squaredWayTo(a.kept[i], b, b.kept[j])) > (double) settings[DIFFER]) {
+                if (a.wayTo(a.kept[i], b, b.kept[j]) > (double) settings[DIFFER]) {
                     firstDiffering = differing == 0 ? moment : firstDiffering;
                     differing++;
                 }
@@ -912,7 +912,7 @@ public final class GliderHouse {
         }
 
         int itemTrouble(int block, int kind, int i) {
-            int n = lengthOf(block, kind);
+            int n = hasRow(block, kind) ? lengths[block * KINDS + kind] : -1;
             if (n < 0) {
                 return LOST;
             }
@@ -1262,18 +1262,11 @@ public final class GliderHouse {
             }
         }
 
-        double wayOf(int i, int j) {
-            if (!knows(i) || !knows(j)) {
-                return 0.0;
-            }
-            return Numbers.rootOf(Numbers.squaredWay(longitudes[i], latitudes[i], longitudes[j], latitudes[j]));
-        }
-
-        double squaredWayTo(int i, Readings other, int j) {
+        double wayTo(int i, Readings other, int j) {
             if (!knows(i) || !other.knows(j)) {
                 return 0.0;
             }
-            return Numbers.squaredWay(longitudes[i], latitudes[i], other.longitudes[j], other.latitudes[j]);
+            return Numbers.rootOf(Numbers.squaredWay(longitudes[i], latitudes[i], other.longitudes[j], other.latitudes[j]));
         }
 
         long tell(int k, int what) {
@@ -1379,7 +1372,7 @@ public final class GliderHouse {
                     || !readings.hasAll(i, Readings.FIX) || !readings.hasAll(j, Readings.FIX)) {
                 return Numbers.NO_FLOAT;
             }
-            double way = readings.wayOf(i, j);
+            double way = readings.wayTo(i, readings, j);
             float sunk = heightOver(t, i) - heightOver(t, j);
             if (sunk == 0.0f) {
                 return way == 0.0 ? Numbers.NO_FLOAT : Numbers.ENDLESS;
@@ -1539,7 +1532,7 @@ public final class GliderHouse {
             if (draft.keptCount > 0) {
                 int last = draft.kept[draft.keptCount - 1];
                 long seconds = draft.moments[k] - draft.moments[last];
-                if (seconds < 1L || draft.wayOf(last, k) > (double) jump * (double) seconds) {
+                if (seconds < 1L || draft.wayTo(last, draft, k) > (double) jump * (double) seconds) {
                     note(F_JUMP, draft.blocks[k], draft.items[k]);
                     return;
                 }
@@ -1829,12 +1822,12 @@ public final class GliderHouse {
 
         /** Sums of k others to j, below 0 where there is none. */
         private void extendTo(Readings r, int j) {
-            sums[j] = r.wayOf(chosen[0], chosen[j]);
+            sums[j] = r.wayTo(chosen[0], r, chosen[j]);
             for (int k = 1; k < LEGS; k++) {
                 sums[k * MOST + j] = -1.0;
             }
             for (int i = 1; i < j; i++) {
-                double leg = r.wayOf(chosen[i], chosen[j]);
+                double leg = r.wayTo(chosen[i], r, chosen[j]);
                 for (int k = 1; k < LEGS; k++) {
                     double before = sums[(k - 1) * MOST + i];
                     if (before >= 0.0 && before + leg > sums[k * MOST + j]) {
@@ -1861,8 +1854,11 @@ public final class GliderHouse {
             }
             double widest = 0.0;
             for (int i = 0; i < r.keptCount; i++) {
+                double longitude = r.longitudes[r.kept[i]];
+                double latitude = r.latitudes[r.kept[i]];
                 for (int j = i + 1; j < r.keptCount; j++) {
-                    double squared = r.squaredWayTo(r.kept[i], r, r.kept[j]);
+                    int k = r.kept[j];
+                    double squared = Numbers.squaredWay(longitude, latitude, r.longitudes[k], r.latitudes[k]);
                     widest = squared > widest ? squared : widest;
                 }
             }
