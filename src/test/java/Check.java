@@ -2,8 +2,14 @@
 final class Check {
     private static int wrong = 0;
     private static int asked = 0;
+    private static String place = "";
 
     private Check() {
+    }
+
+    /** The promise (or the part of "Terms") and the document's words that the answers asked from here on are held against. */
+    static void about(String where, String words) {
+        place = where + ", \"" + words + "\": ";
     }
 
     static void due(String call, long got, long want) {
@@ -11,7 +17,7 @@ final class Check {
         if (got != want) {
             wrong++;
             if (wrong <= 50) {
-                System.out.println(call + " answered " + got + ", due is " + want);
+                System.out.println(place + call + " answered " + got + ", due is " + want);
             }
         }
     }

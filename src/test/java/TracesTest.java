@@ -427,6 +427,7 @@ public final class TracesTest {
         x.alter(2, 2 ^ 24);
         faulty(x, length);
         x.alter(2, 2 ^ 24);
+        x = exported();
         for (int n = length - 1; n >= 0; n--) {
             x.cut(n);
             faulty(x, n);

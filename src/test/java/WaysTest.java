@@ -65,14 +65,14 @@ public final class WaysTest {
             }
         }
         Random random = new Random(5);
-        for (int run = 0; run < 40; run++) {
-            double[][] some = new double[192][];
+        for (int run = 0; run < 64; run++) {
+            double[][] some = new double[120][];
             double spread = Math.pow(10, -random.nextInt(12));
             for (int i = 0; i < some.length; i++) {
                 some[i] = at(180 * spread * (2 * random.nextDouble() - 1), 90 * spread * (2 * random.nextDouble() - 1));
             }
             GliderHouse y = house(some);
-            for (int i = 0; i < 191; i++) {
+            for (int i = 0; i < 119; i++) {
                 Check.due("way", y.way(0, i, i + 1), Check.bits(way(some[i], some[i + 1])));
             }
         }
