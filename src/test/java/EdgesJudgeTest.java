@@ -30,6 +30,7 @@ public final class EdgesJudgeTest {
         partAtItsEnds();
         differAtItsEnds();
         differSameMoment();
+        differOfAll();
         differRefused();
         lacksAtTheirEnds();
         lacksOfTheLatest();
@@ -586,6 +587,29 @@ public final class EdgesJudgeTest {
         lacking(y, GliderHouse.NONE, 2, 0);
         Check.due("none KEPT in either", y.differ(0, 0), 0);
         lacking(y, GliderHouse.NONE, 0, 0);
+    }
+
+    private static void differOfAll() {
+        Check.about("Promise 46", "Of the KEPT fixes of one RECORDER");
+        GliderHouse x = new GliderHouse();
+        for (int t = 0; t < 2; t++) {
+            x.trace();
+            x.here(t, t, Check.bits(0.001 * t), 0, 0);
+            for (int b = 0; b < 8; b++) {
+                x.fly(t, 24, 10, 0, 0, 0);
+            }
+            x.recorder(Flights.PLAIN, t);
+            x.recorder(Flights.PLAIN, 0);
+            x.read(2 * t);
+        }
+        Check.due("192 moments of each that the other one lacks", x.differ(0, 2), 0);
+        lacking(x, GliderHouse.NONE, 192, 192);
+        Check.due("the other way", x.differ(2, 0), 0);
+        lacking(x, GliderHouse.NONE, 192, 192);
+        x.setting(Flights.SHIFT, 1);
+        x.read(0);
+        Check.due("all differ", x.differ(0, 2), 192);
+        lacking(x, 11, 0, 0);
     }
 
     private static void differRefused() {

@@ -14,6 +14,7 @@ public final class EdgesTasksTest {
         taskCleared();
         cylinderBorder();
         cylinderBorderCrossed();
+        cylinderAllRound();
         cylinderStanding();
         sectorQuarters();
         sectorEdges();
@@ -21,6 +22,7 @@ public final class EdgesTasksTest {
         sectorCrossedAtItsEdge();
         sectorLowAboveHigh();
         sectorAlongItsEdge();
+        sectorAskedAgain();
         lineEnds();
         lineJustOutside();
         lineCrossedAtItsEnds();
@@ -209,6 +211,35 @@ public final class EdgesTasksTest {
         Check.yes("a way along the border was told", told > 0);
     }
 
+    private static void cylinderAllRound() {
+        Check.about("Terms 4", "CYLINDER, SECTOR: from low = 0 to high = 1");
+        // nearest in the midst, 39357.4 m from (0, 0), on each side of it; a CYLINDER has no quarter
+        for (int side = 0; side < 4; side++) {
+            GliderHouse x = Flights.flight(10, fix(0.5 * EAST[side], 0), fix(0, 0.5 * NORTH[side]));
+            round(x, CYLINDER, 0, 0, 39358, (side + 2) % 4);
+            reaches(x, 15);
+            x.clearTask();
+            round(x, CYLINDER, 0, 0, 39357, 0);
+            reaches(x);
+            // nearest at 0.29 / 0.41, 26075 m away
+            GliderHouse uneven = Flights.flight(60, fix(0.5 * EAST[side], -0.1 * NORTH[side]), fix(0, 0.3 * NORTH[side]));
+            round(uneven, CYLINDER, 0, 0, 26080, 0);
+            reaches(uneven, 102);
+            uneven.clearTask();
+            round(uneven, CYLINDER, 0, 0, 26070, 0);
+            reaches(uneven);
+            for (int quarter = 0; quarter < 4; quarter++) {
+                x.clearTask();
+                round(x, SECTOR, 0, 0, 39358, quarter);
+                if (quarter == side) {
+                    reaches(x, 15);
+                } else {
+                    reaches(x);
+                }
+            }
+        }
+    }
+
     private static void cylinderStanding() {
         Check.about("Terms 4", "dd = du du + dv dv must not be 0");
         GliderHouse x = Flights.flight(10, fix(1, 1), fix(1, 1), fix(1, 1));
@@ -342,6 +373,26 @@ public final class EdgesTasksTest {
             GliderHouse in = Flights.flight(10, fix(1e-9 * EAST[quarter], -0.25 * n), fix(1e-9 * EAST[quarter], 0.25 * n));
             round(in, SECTOR, 0, 0, 1, quarter);
             reaches(in, 15);
+        }
+    }
+
+    /** What one pair of fixes left of low and high is nothing to the next pair. */
+    private static void sectorAskedAgain() {
+        Check.about("Terms 4", "CYLINDER, SECTOR: from low = 0 to high = 1");
+        for (int quarter = 0; quarter < 4; quarter++) {
+            int e = EAST[quarter];
+            int n = NORTH[quarter];
+            GliderHouse x = Flights.flight(60, fix(-0.25 * e, 0.1 * n), fix(0.01 * e, 0.0005 * n), fix(-0.05 * e, 0.0005 * n));
+            round(x, SECTOR, 0, 0, 100, quarter);
+            // the first two are in it from 0.96 on, but too far away; the next two up to 1 / 6
+            reaches(x, 130);
+            GliderHouse y = Flights.flight(60, fix(0.05 * e, 0.01 * n), fix(-0.25 * e, 0.01 * n), fix(0.05 * e, 0.0001 * n));
+            round(y, SECTOR, 0, 0, 100, quarter);
+            // the first two are in it up to 1 / 6, the next two from 5 / 6 on, but too far away
+            reaches(y);
+            y.clearTask();
+            round(y, SECTOR, 0, 0, 1000, quarter);
+            reaches(y, 170);
         }
     }
 

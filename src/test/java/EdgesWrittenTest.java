@@ -29,6 +29,7 @@ public final class EdgesWrittenTest {
         backBlocks();
         backRows();
         backEnds();
+        backEndsAheadOfASumOfZero();
         backSum();
         backByteBehind();
         backFirstOfSeveral();
@@ -501,6 +502,20 @@ public final class EdgesWrittenTest {
             x.cut(n);
             failsAt(x, n);
         }
+    }
+
+    private static void backEndsAheadOfASumOfZero() {
+        Check.about("Promise 19", "it ends (at its length)");
+        GliderHouse x = new GliderHouse();
+        x.trace();
+        x.block(0);
+        x.row(0, 0, Flights.MARKS, 1);
+        x.set(0, 0, Flights.MARKS, 0, 70);
+        Check.due("export", x.export(0), 9);
+        Check.due("the SUM", x.out(8), 0);
+        Check.due("with it", x.back(), 1);
+        x.cut(8);
+        failsAt(x, 8);
     }
 
     private static void backSum() {
