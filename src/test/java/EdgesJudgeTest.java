@@ -261,12 +261,13 @@ public final class EdgesJudgeTest {
     private static void placesJustBeside() {
         Check.about("Terms 5", "the place 0 .. 3: 90 degrees each from longitude -180 on (180: 3)");
         stands(Math.nextUp(-180.0), 10, 0, 0);
-        stands(-90.0001, 10, 0, 0);
-        stands(-89.9999, 10, 0, 1);
-        stands(-0.0001, 10, 0, 1);
-        stands(0.0001, 10, 0, 2);
-        stands(89.9999, 10, 0, 2);
-        stands(90.0001, 10, 0, 3);
+        stands(Math.nextDown(-90.0), 10, 0, 0);
+        stands(Math.nextUp(-90.0), 10, 0, 1);
+        stands(-1e-9, 10, 0, 1);
+        stands(-Double.MIN_VALUE, 10, 0, 1);
+        stands(Double.MIN_VALUE, 10, 0, 2);
+        stands(Math.nextDown(90.0), 10, 0, 2);
+        stands(Math.nextUp(90.0), 10, 0, 3);
         stands(Math.nextDown(180.0), 10, 0, 3);
     }
 
