@@ -146,6 +146,16 @@ public final class EdgesSettingsTest {
         GliderHouse z = new GliderHouse();
         Flights.lay(z, 1f, 0);
         Check.due("-0 is 1 below 1", Flights.lay(z, -0f, 0), 2);
+        // 1 less these is 1 as a float, though not as a double
+        float[] tiny = {Float.MIN_VALUE, Float.MIN_NORMAL, 1e-10f, 0x1p-25f};
+        for (float p : tiny) {
+            GliderHouse w = new GliderHouse();
+            Flights.lay(w, 1f, 0);
+            Check.due("1 below 1, as floats: " + p, Flights.lay(w, p, 0), 2);
+        }
+        GliderHouse w = new GliderHouse();
+        Flights.lay(w, 1f, 0);
+        Check.refused(w, "as floats, too, less than 1", Flights.lay(w, Math.nextUp(0x1p-25f), 0), GliderHouse.OUTSIDE);
     }
 
     private static void heightsAtTheirEnds() {

@@ -469,6 +469,17 @@ public final class EdgesTasksTest {
             line(beside, 0, -1, 0, 1);
             reaches(beside);
         }
+        // so short a LINE, and so near it, that U v - V u is far below 1: still both on one side
+        double end = 1e-7;
+        double[] north = {1e-5, -1e-5};
+        for (double near : north) {
+            GliderHouse x = Flights.flight(10, fix(0, near), fix(0, near / 2));
+            line(x, 0, 0, end, 0);
+            reaches(x);
+            GliderHouse through = Flights.flight(10, fix(0, near), fix(0, -near));
+            line(through, 0, 0, end, 0);
+            reaches(through, 15);
+        }
     }
 
     private static void lineAlong() {

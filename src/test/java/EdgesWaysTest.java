@@ -18,6 +18,7 @@ public final class EdgesWaysTest {
         bestEqualCorners();
         bestLeastOthers();
         bestZeroLegs();
+        bestShortLegs();
         bestRefused();
         cornersAtTheirEnds();
         cornersOfTheLatest();
@@ -286,6 +287,26 @@ public final class EdgesWaysTest {
         Check.yes("neither 0 nor 2", x.corner(0) != 0 && x.corner(0) != 2);
     }
 
+    private static void bestShortLegs() {
+        Check.about("Terms 5", "G(k, j) the greatest of G(k - 1, i) + WAY(i, j)");
+        // legs of half a metre, of less than a hair, and of the least that has a WAY
+        double[] norths = {5e-6, 1e-10, 1e-150};
+        for (double north : norths) {
+            double[][] fixes = {fix(0, 0), fix(0, north), fix(0, -north), fix(0, north)};
+            greatest(Flights.flight(100, fixes), along(fixes, 0, 1, 2, 3), 1, 2);
+        }
+        // a longer flight ahead of it leaves nothing behind
+        double[][] far = {fix(0, 0), fix(0, 3), fix(0, -3), fix(0, 3)};
+        GliderHouse x = Flights.flight(100, far);
+        greatest(x, along(far, 0, 1, 2, 3), 1, 2);
+        double[][] near = {fix(0, 0), fix(0, 1), fix(0, -1), fix(0, 1)};
+        for (int i = 0; i < near.length; i++) {
+            Flights.put(x, i, near[i]);
+        }
+        x.read(0);
+        greatest(x, along(near, 0, 1, 2, 3), 1, 2);
+    }
+
     private static void bestRefused() {
         Check.about("Promise 33", "Bits of THE GREATEST WAY. Likewise");
         GliderHouse x = Flights.flight(10, fix(0, 0), fix(1, 1), fix(0, 0));
@@ -329,6 +350,17 @@ public final class EdgesWaysTest {
         Check.due("the other one has none", x.corner(0), GliderHouse.NONE);
         x.bound(0);
         Check.due("and bound() brings none", x.corner(0), GliderHouse.NONE);
+        x.best(0);
+        Check.due("there again", x.corner(1), 2);
+        x.row(1, 0, Flights.MOMENTS, 1);
+        x.read(1);
+        x.best(1);
+        Check.due("of one fix there are none", x.corner(0), GliderHouse.NONE);
+        x.best(0);
+        x.row(1, 0, Flights.MOMENTS, 0);
+        x.read(1);
+        x.best(1);
+        Check.due("nor of no fix", x.corner(0), GliderHouse.NONE);
     }
 
     private static double five(double w) {
